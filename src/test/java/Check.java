@@ -1,23 +1,36 @@
+import java.util.List;
 import java.util.function.Function;
 import java.util.function.Supplier;
 
 /** What the tests share: answers that are due, refusals that are due and change nothing, and the end of a test. */
 final class Check {
+  static final Class<IndexOutOfBoundsException> INDEX = IndexOutOfBoundsException.class;
+  static final Class<IllegalArgumentException> ARGUMENT = IllegalArgumentException.class;
+  static final Class<IllegalStateException> STATE = IllegalStateException.class;
+  static final int MIN = Integer.MIN_VALUE, MAX = Integer.MAX_VALUE;
+
+  private static String part = "";
   private static int looked = 0;
   private static int wrong = 0;
 
   private Check() {
   }
 
+  /** What is looked at from here on is told under this name. */
+  static void beginPart(String name) {
+    part = name + ": ";
+  }
+
+  static int looked() {
+    return looked;
+  }
+
   static void due(String what, long want, long got) {
-    looked++;
-    if (want != got) {
-      tell(what + " answered " + got + ", due is " + want);
-    }
+    due(what, String.valueOf(want), String.valueOf(got));
   }
 
   static void due(String what, boolean want, boolean got) {
-    due(what, want ? 1 : 0, got ? 1 : 0);
+    due(what, String.valueOf(want), String.valueOf(got));
   }
 
   static void due(String what, String want, String got) {
@@ -27,15 +40,20 @@ final class Check {
     }
   }
 
-  /**
-   * The call must throw just this exception, not one of a class below it, and change nothing. The object is made
-   * twice, so that the look at the one that was not called costs the other one none of its 512 calls.
-   */
+  /** The call must throw just this exception, not one of a class below it, and every answer must be as before. */
   static void refuses(String what, Class<? extends RuntimeException> want,
       Supplier<LotTracker> setup, Function<LotTracker, Object> call) {
-    LotTracker called = setup.get();
-    due(what, "throws " + want.getName(), answer(called, call));
-    due("the state after the refusal of " + what, Portrait.of(setup.get()), Portrait.of(called));
+    due(what, "throws " + want.getName(), answer(setup.get(), call));
+    List<String> before = Answers.of(setup);
+    List<String> after = Answers.of(() -> {
+      LotTracker tracker = setup.get();
+      answer(tracker, call);
+      return tracker;
+    });
+    due("after the refusal of " + what + " there", before.size(), after.size());
+    for (int i = 0; i < before.size() && i < after.size(); i++) {
+      due("after the refusal of " + what + " there", before.get(i), after.get(i));
+    }
   }
 
   static String answer(LotTracker tracker, Function<LotTracker, Object> call) {
@@ -49,7 +67,7 @@ final class Check {
   static void tell(String what) {
     wrong++;
     if (wrong <= 40) {
-      System.out.println(what);
+      System.out.println(part + what);
     }
   }
 
